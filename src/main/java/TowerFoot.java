@@ -62,8 +62,8 @@ public final class TowerFoot {
     private static final int GRID = 16;
     private static final int MARGIN = 3;
     private static final int SPOTS = 256;
-    private static final int[] UP = {-GRID, 1, GRID, -1};
-    private static final int[] BESIDE = {1, GRID, 1, GRID};
+    private static final int[] UP = {-16, 1, 16, -1};
+    private static final int[] BESIDE = {1, 16, 1, 16};
 
     private static final int OPEN = 0;
     private static final int PASSAGE = 1;
@@ -114,15 +114,15 @@ public final class TowerFoot {
     private static final int TOKEN_SEEN = 16;
     private static final int SIGN = 1000;
 
-    private static final int REMEMBERED = 1024;
+    private static final int REMEMBERED_BITS = 10;
+    private static final long SCATTER = 6364136223846793005L;
     private static final int NO_KEY = Integer.MIN_VALUE;
     private static final int[] ORDERS = {1, 1, 2, 6, 24, 120, 720};
 
     private final Square square = new Square();
-    private final Square[] images = {new Square(), new Square()};
-    private final boolean[] imageKept = new boolean[IMAGES];
+    private final Square[] images = new Square[IMAGES];
     private final Wind wind = new Wind();
-    private final Trials trials = new Trials(wind);
+    private final Trials trials = new Trials();
     private final LawReader reader = new LawReader();
     private final int[] keys = new int[CELLS];
     private final int[] tape = new int[TAPE_MOST];
@@ -293,16 +293,18 @@ public final class TowerFoot {
     }
 
     public int over(int cell) {
-        if (cell == NONE) {
-            return wind.allOver(square, square.ground);
+        if (cell != NONE && !square.isGround(cell)) {
+            return NONE;
         }
-        return square.isGround(cell) ? wind.overAt(square, square.ground, spotOf(cell)) : NONE;
+        int all = wind.allOver(square, square.ground);
+        return cell == NONE ? all : wind.overs[cell];
     }
 
     public int bad(int i) {
+        wind.allOver(square, square.ground);
         int bad = 0;
         for (int cell = 0; cell < CELLS; cell++) {
-            int over = wind.overAt(square, square.ground, spotOf(cell));
+            int over = wind.overs[cell];
             keys[cell] = over > 0 ? over : NO_KEY;
             bad += over > 0 ? 1 : 0;
         }
@@ -347,13 +349,17 @@ public final class TowerFoot {
         if (!square.towers.has(tower)) {
             return NO_DOES;
         }
-        int all = (1 << square.towers.many) - 1;
-        return wind.allOver(square, square.ground)
-                - trials.overWithTowers(square, all & ~(1 << tower));
+        trials.ground.become(square.ground);
+        square.towers.makeHigh(tower, 0, trials.ground);
+        return wind.allOver(square, square.ground) - wind.allOver(square, trials.ground);
     }
 
     public long share(int tower) {
-        return square.towers.has(tower) ? trials.shareOf(square, tower) : NO_SHARE;
+        if (!square.towers.has(tower)) {
+            return NO_SHARE;
+        }
+        trials.learnTowerOvers(square, wind);
+        return trials.shareOf(tower, square.towers.many);
     }
 
     public int ahead(int x, int y, int wide, int deep, int high) {
@@ -369,7 +375,7 @@ public final class TowerFoot {
         if (!isWithin(what, 0, 2)) {
             return NONE;
         }
-        trials.findSite(square, wide, deep, high);
+        trials.findSite(square, wind, wide, deep, high);
         if (what == 2) {
             return trials.sites;
         }
@@ -424,18 +430,18 @@ public final class TowerFoot {
         if (what == 3) {
             return square.works.coinOf(works);
         }
-        if (what == 0) {
-            return trials.overWithWorks(square, works);
-        }
         trials.doWorks(square, works);
-        return what == 1 ? trials.hurtCells(square) : trials.lowestHurt(square);
+        if (what == 0) {
+            return wind.allOver(square, trials.ground);
+        }
+        return what == 1 ? trials.hurtCells(square, wind) : trials.lowestHurt(square, wind);
     }
 
     public int least(int what) {
         if (!isWithin(what, 0, 2)) {
             return NONE;
         }
-        trials.findLeast(square);
+        trials.findLeast(square, wind);
         if (what == 1) {
             return trials.leastBits;
         }
@@ -496,9 +502,10 @@ public final class TowerFoot {
 
     /** For each BAD CELL a row of bits, the PLACES that watch it, in keys: how many there are. */
     private int gatherWatchers() {
+        wind.allOver(square, square.ground);
         int bad = 0;
         for (int cell = 0; cell < CELLS; cell++) {
-            if (wind.overAt(square, square.ground, spotOf(cell)) > 0) {
+            if (wind.overs[cell] > 0) {
                 keys[bad] = square.watchers(cell);
                 bad++;
             }
@@ -607,8 +614,12 @@ public final class TowerFoot {
         if (!isWithin(k, 0, IMAGES - 1)) {
             return refuse(CANT_BE);
         }
-        images[k].become(square);
-        imageKept[k] = true;
+        Square kept = images[k];
+        if (kept == null) {
+            kept = new Square();
+            images[k] = kept;
+        }
+        kept.become(square);
         return accept(0);
     }
 
@@ -616,10 +627,11 @@ public final class TowerFoot {
         if (!isWithin(k, 0, IMAGES - 1)) {
             return refuse(CANT_BE);
         }
-        if (!imageKept[k]) {
+        Square kept = images[k];
+        if (kept == null) {
             return refuse(NO_SUCH);
         }
-        square.become(images[k]);
+        square.become(kept);
         return accept(0);
     }
 
@@ -1044,9 +1056,10 @@ public final class TowerFoot {
     /** How quick it is in a CELL, and what follows from that for a year. */
     private static final class Wind {
         final int[] seen = new int[SEEN];
+        final int[] overs = new int[CELLS];
         private final int[] stack = new int[STACK];
-        private final long[] rememberedSights = new long[REMEMBERED];
-        private final int[] rememberedQuick = new int[REMEMBERED];
+        private final long[] rememberedSights = new long[1 << REMEMBERED_BITS];
+        private final int[] rememberedQuick = new int[1 << REMEMBERED_BITS];
         private Law rememberedLaw = null;
 
         /** Fills seen with what a LAW may ask of a spot of the square by a WAY. */
@@ -1095,10 +1108,25 @@ public final class TowerFoot {
         int quick(Square square, Ground ground, int spot, int way) {
             look(ground, spot, way);
             Law law = square.lawInForce();
-            int told = law == null ? NONE : toldBy(law);
-            if (told != NONE) {
-                return told;
+            if (law == null) {
+                return lawlessQuick();
             }
+            if (law != rememberedLaw) {
+                Arrays.fill(rememberedSights, 0);
+                rememberedLaw = law;
+            }
+            // a LAW tells the same of the same sight: trials need not ask it over and over
+            long sight = sightSeen();
+            int slot = (int) (sight * SCATTER >>> 64 - REMEMBERED_BITS);
+            if (rememberedSights[slot] != sight) {
+                int told = law.tells(seen, stack);
+                rememberedSights[slot] = sight;
+                rememberedQuick[slot] = told == NONE ? lawlessQuick() : told;
+            }
+            return rememberedQuick[slot];
+        }
+
+        private int lawlessQuick() {
             switch (seen[SEEN_KIND]) {
                 case PASSAGE: return 180;
                 case FRONT: return 100 + 2 * seen[SEEN_RISE];
@@ -1108,22 +1136,13 @@ public final class TowerFoot {
             }
         }
 
-        /** A LAW tells the same of the same sight, so trials need not ask it over and over. */
-        private int toldBy(Law law) {
-            if (law != rememberedLaw) {
-                Arrays.fill(rememberedSights, 0);
-                rememberedLaw = law;
-            }
+        /** All that is seen in one number, which is never 0. */
+        private long sightSeen() {
             long sight = 1;
             for (int i = 0; i < SEEN; i++) {
                 sight = sight << 6 | seen[i];
             }
-            int slot = (int) ((sight * 0x9E3779B97F4A7C15L) >>> 54);
-            if (rememberedSights[slot] != sight) {
-                rememberedSights[slot] = sight;
-                rememberedQuick[slot] = law.tells(seen, stack);
-            }
-            return rememberedQuick[slot];
+            return sight;
         }
 
         int hoursAbove(Square square, Ground ground, int spot, int pace) {
@@ -1139,19 +1158,19 @@ public final class TowerFoot {
             return sum;
         }
 
-        int overAt(Square square, Ground ground, int spot) {
-            int use = ground.uses[spot];
-            if (!isWithin(use, 1, USES)) {
-                return 0;
-            }
-            int above = hoursAbove(square, ground, spot, square.linePaces[use]);
-            return Math.max(0, above - square.lineHours[use]);
-        }
-
+        /** OVER of all CELLS together; that of each stands in overs then. */
         int allOver(Square square, Ground ground) {
             int sum = 0;
             for (int cell = 0; cell < CELLS; cell++) {
-                sum += overAt(square, ground, spotOf(cell));
+                int spot = spotOf(cell);
+                int use = ground.uses[spot];
+                int over = 0;
+                if (isWithin(use, 1, USES)) {
+                    int above = hoursAbove(square, ground, spot, square.linePaces[use]);
+                    over = Math.max(0, above - square.lineHours[use]);
+                }
+                overs[cell] = over;
+                sum += over;
             }
             return sum;
         }
@@ -1174,7 +1193,6 @@ public final class TowerFoot {
     /** What would be if the square were another one; dear findings stay until it changes. */
     private static final class Trials {
         final Ground ground = new Ground();
-        private final Wind wind;
         private final int[] towerOvers = new int[SETS_OF_TOWERS];
         private boolean towerOversKnown = false;
         int leastBits = NONE;
@@ -1186,51 +1204,46 @@ public final class TowerFoot {
         int sites = 0;
         private int siteShape = NONE;
 
-        Trials(Wind itsWind) {
-            wind = itsWind;
-        }
-
         void forget() {
             towerOversKnown = false;
             leastKnown = false;
             siteShape = NONE;
         }
 
-        /** OVER of all CELLS, if of the TOWERS only those of these bits stood. */
-        int overWithTowers(Square square, int standing) {
-            ground.become(square.ground);
-            for (int tower = 0; tower < square.towers.many; tower++) {
-                if ((standing >> tower & 1) == 0) {
-                    square.towers.makeHigh(tower, 0, ground);
-                }
+        /** OVER of all CELLS for each set of TOWERS, as bits, that could have stood alone. */
+        void learnTowerOvers(Square square, Wind wind) {
+            if (towerOversKnown) {
+                return;
             }
-            return wind.allOver(square, ground);
+            towerOversKnown = true;
+            for (int set = 0; set < 1 << square.towers.many && set < SETS_OF_TOWERS; set++) {
+                ground.become(square.ground);
+                for (int tower = 0; tower < square.towers.many; tower++) {
+                    if ((set >> tower & 1) == 0) {
+                        square.towers.makeHigh(tower, 0, ground);
+                    }
+                }
+                towerOvers[set] = wind.allOver(square, ground);
+            }
         }
 
-        long shareOf(Square square, int tower) {
-            int many = square.towers.many;
-            if (!square.towers.has(tower) || many >= ORDERS.length) {
+        /** A set stood ahead of the TOWER in so many orders as it and the rest have of their own. */
+        long shareOf(int tower, int many) {
+            if (!isWithin(many, 1, TOWERS_MOST) || !isWithin(tower, 0, many - 1)) {
                 return NO_SHARE;
             }
-            if (!towerOversKnown) {
-                for (int set = 0; set < 1 << many; set++) {
-                    towerOvers[set] = overWithTowers(square, set);
-                }
-                towerOversKnown = true;
-            }
-            int every = 720 / Math.max(1, ORDERS[many]);
             long sum = 0;
             for (int set = 0; set < 1 << many; set++) {
                 if ((set >> tower & 1) == 0) {
                     int before = Integer.bitCount(set);
-                    long orders = (long) ORDERS[before] * ORDERS[many - 1 - before] * every;
+                    long orders = (long) ORDERS[before] * ORDERS[many - 1 - before];
                     sum += orders * (towerOvers[set | 1 << tower] - towerOvers[set]);
                 }
             }
-            return sum;
+            return sum * (ORDERS[TOWERS_MOST] / ORDERS[many]);
         }
 
-        void findSite(Square square, int wide, int deep, int high) {
+        void findSite(Square square, Wind wind, int wide, int deep, int high) {
             int shape = isWithin(wide, 1, WIDE_MOST) && isWithin(deep, 1, WIDE_MOST)
                     && isWithin(high, 1, HIGH_MOST) ? (high * 10 + deep) * 10 + wide : 0;
             if (shape == siteShape) {
@@ -1265,20 +1278,16 @@ public final class TowerFoot {
             }
         }
 
-        int overWithWorks(Square square, int bits) {
-            doWorks(square, bits);
-            return wind.allOver(square, ground);
-        }
-
         /** No CELL is BAD where OVER is 0, so that the least OVER goes ahead of COIN and bits. */
-        void findLeast(Square square) {
+        void findLeast(Square square, Wind wind) {
             if (leastKnown) {
                 return;
             }
             leastKnown = true;
             leastBits = NONE;
             for (int bits = 0; bits < 1 << square.works.many; bits++) {
-                int over = overWithWorks(square, bits);
+                doWorks(square, bits);
+                int over = wind.allOver(square, ground);
                 int coin = square.works.coinOf(bits);
                 if (leastBits == NONE || over < leastOver
                         || (over == leastOver && coin < leastCoin)) {
@@ -1289,7 +1298,7 @@ public final class TowerFoot {
             }
         }
 
-        private boolean isHurt(Square square, int cell) {
+        private boolean isHurt(Square square, Wind wind, int cell) {
             int spot = spotOf(cell);
             int use = ground.uses[spot];
             if (!isWithin(use, 1, USES)) {
@@ -1300,17 +1309,17 @@ public final class TowerFoot {
                     > wind.hoursAbove(square, square.ground, spot, pace);
         }
 
-        int hurtCells(Square square) {
+        int hurtCells(Square square, Wind wind) {
             int many = 0;
             for (int cell = 0; cell < CELLS; cell++) {
-                many += isHurt(square, cell) ? 1 : 0;
+                many += isHurt(square, wind, cell) ? 1 : 0;
             }
             return many;
         }
 
-        int lowestHurt(Square square) {
+        int lowestHurt(Square square, Wind wind) {
             for (int cell = 0; cell < CELLS; cell++) {
-                if (isHurt(square, cell)) {
+                if (isHurt(square, wind, cell)) {
                     return cell;
                 }
             }
@@ -1386,19 +1395,17 @@ public final class TowerFoot {
         }
 
         private static int joined(int step, int a, int b) {
+            long answer;
             switch (step) {
-                case STEP_PLUS: return limited((long) a + b);
-                case STEP_MINUS: return limited((long) a - b);
-                case STEP_TIMES: return limited((long) a * b);
-                case STEP_THROUGH: return b == 0 ? BROKEN : a / b;
-                case STEP_LESS: return a < b ? 1 : 0;
-                case STEP_MORE: return a > b ? 1 : 0;
-                default: return a == b ? 1 : 0;
+                case STEP_PLUS: answer = (long) a + b; break;
+                case STEP_MINUS: answer = (long) a - b; break;
+                case STEP_TIMES: answer = (long) a * b; break;
+                case STEP_THROUGH: answer = b == 0 ? BROKEN : a / b; break;
+                case STEP_LESS: answer = a < b ? 1 : 0; break;
+                case STEP_MORE: answer = a > b ? 1 : 0; break;
+                default: answer = a == b ? 1 : 0; break;
             }
-        }
-
-        private static int limited(long number) {
-            return number > SUM_MOST || number < -SUM_MOST ? BROKEN : (int) number;
+            return answer > SUM_MOST || answer < -SUM_MOST ? BROKEN : (int) answer;
         }
     }
 

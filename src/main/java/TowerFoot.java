@@ -1227,7 +1227,7 @@ public final class TowerFoot {
             }
         }
 
-        /** A set stood ahead of the TOWER in so many orders as it and the rest have of their own. */
+        /** The TOWERS ahead and those behind could each have been built in any order. */
         long shareOf(int tower, int many) {
             if (!isWithin(many, 1, TOWERS_MOST) || !isWithin(tower, 0, many - 1)) {
                 return NO_SHARE;
@@ -1286,9 +1286,12 @@ public final class TowerFoot {
             leastKnown = true;
             leastBits = NONE;
             for (int bits = 0; bits < 1 << square.works.many; bits++) {
+                int coin = square.works.coinOf(bits);
+                if (leastBits != NONE && leastOver == 0 && coin >= leastCoin) {
+                    continue;
+                }
                 doWorks(square, bits);
                 int over = wind.allOver(square, ground);
-                int coin = square.works.coinOf(bits);
                 if (leastBits == NONE || over < leastOver
                         || (over == leastOver && coin < leastCoin)) {
                     leastBits = bits;
@@ -1344,7 +1347,8 @@ public final class TowerFoot {
 
         /** QUICK by the last CLAUSE that HOLDS; NONE without one. */
         int tells(int[] seen, int[] stack) {
-            for (int clause = Math.min(clauses, (bounds.length - 1) / 2) - 1; clause >= 0; clause--) {
+            int last = Math.min(clauses, (bounds.length - 1) / 2) - 1;
+            for (int clause = last; clause >= 0; clause--) {
                 int test = bounds[2 * clause + 1];
                 int behind = bounds[2 * clause + 2];
                 if (test == behind || reckon(test, behind, seen, stack) == 1) {
@@ -1364,10 +1368,10 @@ public final class TowerFoot {
                 int with = code[i] >> STEP_BITS;
                 if (step <= STEP_WORD) {
                     top++;
-                    if (top >= stack.length || with < 0 || (step == STEP_WORD && with >= seen.length)) {
+                    if (top >= stack.length || with < 0) {
                         return BROKEN;
                     }
-                    stack[top] = step == STEP_WORD ? seen[with] : with;
+                    stack[top] = step == STEP_WORD && with < seen.length ? seen[with] : with;
                 } else if (step >= STEP_NOT) {
                     if (top < 0) {
                         return BROKEN;
@@ -1468,32 +1472,51 @@ public final class TowerFoot {
         }
 
         private boolean readTest(int depth) {
-            return readChain(depth, TOKEN_OR, STEP_OR);
-        }
-
-        /** TESTS with one word between them, each of which may jump behind the last one. */
-        private boolean readChain(int depth, int word, int step) {
             int jumps = NONE;
             for (int i = 0; i <= TAPE_MOST; i++) {
-                boolean read = word == TOKEN_OR ? readChain(depth, TOKEN_AND, STEP_AND)
-                        : readPlain(depth);
-                if (!read) {
+                if (!readBoth(depth)) {
                     return false;
                 }
-                if (token != word) {
+                if (token != TOKEN_OR) {
                     break;
                 }
                 next();
-                // until the end is known, each jump holds where the one ahead of it stands
-                add(step, jumps);
-                jumps = codeSteps - 1;
+                jumps = addJump(STEP_OR, jumps);
             }
-            for (int i = 0; i <= TAPE_MOST && jumps >= 0 && jumps < codeSteps; i++) {
-                int ahead = code[jumps] >> STEP_BITS;
-                code[jumps] = step | codeSteps << STEP_BITS;
-                jumps = ahead;
-            }
+            landHere(jumps);
             return true;
+        }
+
+        private boolean readBoth(int depth) {
+            int jumps = NONE;
+            for (int i = 0; i <= TAPE_MOST; i++) {
+                if (!readPlain(depth)) {
+                    return false;
+                }
+                if (token != TOKEN_AND) {
+                    break;
+                }
+                next();
+                jumps = addJump(STEP_AND, jumps);
+            }
+            landHere(jumps);
+            return true;
+        }
+
+        /** Until its end is known, a jump holds where the one ahead of it stands. */
+        private int addJump(int step, int jumpAhead) {
+            add(step, jumpAhead);
+            return codeSteps - 1;
+        }
+
+        /** These jumps, each of which holds the one ahead of it, go to the next step. */
+        private void landHere(int jumps) {
+            int jump = jumps;
+            for (int i = 0; i <= TAPE_MOST && jump >= 0 && jump < codeSteps; i++) {
+                int ahead = code[jump] >> STEP_BITS;
+                code[jump] = code[jump] & STEP_MASK | codeSteps << STEP_BITS;
+                jump = ahead;
+            }
         }
 
         private boolean readPlain(int depth) {

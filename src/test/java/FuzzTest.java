@@ -106,6 +106,19 @@ public final class FuzzTest {
             ask("put", up(100), up(3), up(10));
         } else if (draw < 20) {
             ask("put", up(100), 2, up(4));
+        } else if (draw < 22) {
+            ask("place", near(useCell()));
+            ask("glass", up(3));
+        } else if (draw < 27) {
+            nearTower();
+        } else if (draw < 28) {
+            ask("end", 0);
+            for (int i = up(21); i > 0; i--) {
+                ask("feed", up(400), up(400) << 16, up(70), up(300) << 16 | up(70), up(50));
+            }
+            ask("end", Math.max(0, due.tape.length() - up(20)));
+            ask("row");
+            ask("torn");
         } else {
             String[] one = Calls.FACE[random.nextInt(Calls.FACE.length)];
             boolean dear = one[0].equals("share") || one[0].equals("least") || one[0].equals("site");
@@ -122,6 +135,30 @@ public final class FuzzTest {
             ask(one[0], a);
             ask("status");
         }
+    }
+
+    /** What is asked of a CELL beside a TOWER, where most things happen. */
+    private void nearTower() {
+        if (due.now.towers.isEmpty()) {
+            return;
+        }
+        int tower = up(due.now.towers.size());
+        Oracle.Tower t = due.now.towers.get(tower);
+        int cell = near(10 * (t.y + up(t.deep)) + t.x + up(t.wide));
+        int way = up(4);
+        int pace = up(10);
+        ask("odds", tower, cell, way, pace, 0);
+        ask("odds", tower, cell, way, pace, 1);
+        ask("kind", cell, way, up(7));
+        ask("salt", cell, way, up(12));
+        ask("curve", cell, way, up(10), 1 + up(5));
+        ask("above", cell, up(14));
+    }
+
+    private int near(int cell) {
+        int x = Math.max(0, Math.min(9, cell % 10 + up(5) - 2));
+        int y = Math.max(0, Math.min(9, cell / 10 + up(5) - 2));
+        return 10 * y + x;
     }
 
     private int useCell() {

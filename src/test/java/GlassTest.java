@@ -96,6 +96,12 @@ public final class GlassTest {
         t.place(33);
         t.place(22);
         glass("one that sees all", t, 1, 4, 1);
+        int[] apart = {0, 4, 8, 22, 26, 40, 44, 48, 62, 66, 80, 84};
+        t = bad(apart);
+        for (int cell : apart) {
+            t.place(cell);
+        }
+        glass("all twelve", t, 12, 4095, 1);
     }
 
     private static void promise34Salt() {

@@ -77,6 +77,18 @@ public final class ImageTest {
         DUE.due("another second", t.kind(5, 0, 6), 3);
         t.back(1);
         DUE.due("the second that was", t.kind(5, 0, 6), 2);
+        t = new TowerFoot();
+        t.image(0);
+        law(t, "quick 4");
+        t.force(0);
+        t.image(1);
+        t.back(0);
+        DUE.due("no law", t.count(2), 0);
+        law(t, "quick 5");
+        t.force(0);
+        DUE.due("another first", t.kind(5, 0, 6), 5);
+        t.back(1);
+        DUE.due("the first that was", t.kind(5, 0, 6), 4);
     }
 
     private static void promise39Kept() {

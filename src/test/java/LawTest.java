@@ -5,6 +5,7 @@ public final class LawTest {
     public static void main(String[] args) {
         promise13Law();
         promise13Room();
+        promise13Again();
         promise14Fault();
         promise14Limits();
         promise15Force();
@@ -57,6 +58,33 @@ public final class LawTest {
         }
     }
 
+    /** Nothing of an earlier TEXT or LAW is left over. */
+    private static void promise13Again() {
+        TowerFoot t = new TowerFoot();
+        t.image(0);
+        for (int i = 0; i < 40; i++) {
+            Calls.feedText(t, "quick " + i + "+1".repeat(30));
+            DUE.due("law", t.law(), 0);
+            t.force(0);
+            DUE.due("its quick", t.kind(0, 0, 6), 30 + i);
+            t.back(0);
+        }
+        Calls.feedText(t, "quick 1234567if9");
+        t.end(7);
+        DUE.due("law that was cut", t.law(), 0);
+        t.force(0);
+        DUE.due("its quick", t.kind(0, 0, 6), 1);
+        Calls.feedText(t, "quick xyxyxy");
+        t.end(7);
+        DUE.due("law that was cut", t.law(), 1);
+        Calls.feedText(t, "quick 9 if x=0 or y=0 if");
+        t.end(14);
+        DUE.due("law that was cut", t.law(), 2);
+        t.force(2);
+        DUE.due("its quick", t.kind(0, 0, 6), 9);
+        DUE.due("where it does not hold", t.kind(1, 0, 6), 100);
+    }
+
     private static int faultOf(String text) {
         TowerFoot t = new TowerFoot();
         Calls.feedText(t, text);
@@ -71,7 +99,8 @@ public final class LawTest {
             {"quick 0", -1}, {"quick 1000", -1}, {"quick 1001", 6}, {"quick 0001000", -1},
             {"quick 99999999999999999999", 6}, {"quick 00000000000000000005", -1},
             {"quick1if1<1", -1}, {"quick 1 if 1<1or1>1and1=1", -1}, {"quick x1", 7},
-            {"quickx", 0}, {"Quick 1", 0}, {"quick\t1", 5}, {"quick 1 ;", 9}, {"quick 1 ; ", 10},
+            {"quickx", 0}, {"quicka", 0}, {"quickz", 0}, {"quick {", 6}, {"quick `", 6},
+            {"quick /", 6}, {"quick :", 6}, {"Quick 1", 0}, {"quick\t1", 5}, {"quick 1 ;", 9}, {"quick 1 ; ", 10},
             {"quick 1;;quick 1", 8}, {";quick 1", 0}, {"quick -1", 6}, {"quick 1 if", 10},
             {"quick 1 if 1", 12}, {"quick 1 if 1<", 13}, {"quick 1 if 1<2<3", 14},
             {"quick 1 if (1<2", 15}, {"quick 1 if (1)<2", 13}, {"quick 1 if [1]<2", -1},
@@ -203,6 +232,13 @@ public final class LawTest {
         sight("lee at 1", new int[] {4, 4, 20}, 4, 0, 20, 1, 40);
         sight("lee at 2", new int[] {4, 3, 20}, 4, 0, 20, 2, 40);
         sight("lee at 3", new int[] {4, 2, 20}, 4, 0, 20, 3, 40);
+        sight("low passage", new int[] {3, 5, 1, 5, 5, 1}, 1, 1, 1, 0, 180);
+        sight("low front", new int[] {4, 6, 1}, 2, 1, 1, 0, 102);
+        sight("low corner left", new int[] {3, 5, 1}, 3, 1, 1, 0, 151);
+        sight("low corner right", new int[] {5, 5, 1}, 3, 1, 1, 0, 151);
+        sight("low lee at 1", new int[] {4, 4, 1}, 4, 0, 1, 1, 40);
+        sight("low lee at 2", new int[] {4, 3, 1, 4, 2, 9}, 4, 0, 1, 2, 40);
+        sight("low lee at 3", new int[] {4, 2, 1}, 4, 0, 1, 3, 40);
         sight("lee of the nearest", new int[] {4, 2, 20, 4, 3, 7}, 4, 0, 7, 2, 40);
     }
 
@@ -264,6 +300,8 @@ public final class LawTest {
             {"quick 0-1000*1000*1000", 0}, {"quick 1000*1000*1000+1", 100},
             {"quick 0-1000*1000*1000-1", 100}, {"quick 1000*1000*1000+1-1", 100},
             {"quick 1000*1000*1000*1000*0", 100}, {"quick 5/0", 100}, {"quick 5*[1/0]", 100},
+            {"quick 5;quick 6;quick 7;quick 8;quick 9", 9},
+            {"quick 5;quick 6;quick 7;quick 8 if x>9;quick 9 if x>9", 7},
             {"quick 7;quick 5/0", 7}, {"quick 7;quick 8", 8}, {"quick 7;quick 8;quick 9 if 1>2", 8},
             {"quick 0/5", 0}, {"quick [1000*1000*1000-1]*1/[1000*1000]", 999},
         });
@@ -273,12 +311,15 @@ public final class LawTest {
         String[] so = {"1<2", "2>1", "2=2", "not 1>2", "not not 1<2", "1>2 or 1<2", "1<2 or 1/0=1",
             "1<2 and 2<3", "(1>2 or 1<2) and 1<2", "1<2 or 1<2 and 1>2", "not (1<2 and 1>2)",
             "not 1>2 and 1<2", "1>2 and 1/0=1 or 1<2", "1=1 or 1/0=1 and 1/0=2",
-            "not (1>2 and 1/0=1)", "1>2 or 1>2 or 1<2 or 1/0=1", "1+1=4-2"};
+            "not (1>2 and 1/0=1)", "1>2 or 1>2 or 1<2 or 1/0=1", "1+1=4-2",
+            "1<2 or 1/0=1 or 1/0=1", "1>2 and 1/0=1 and 1/0=1 or 1<2", "not (not 1<2)",
+            "not not not 1>2", "not (1>2 or not 1<2)", "1<2 and (1<2 or 1/0=1) and 1<2"};
         String[] not = {"1>2", "1<1", "1>1", "1=2", "not 1<2", "1>2 or 2>3", "1<2 and 1>2",
             "1/0=1", "not 1/0=1", "1/0=1 or 1<2", "1>2 or 1/0=1", "1<2 and 1/0=1",
             "(1/0=1 or 1<2) or 1<2", "1<2 and (1>2 or 1/0=1)", "1>2 and 1/0=1",
             "1000*1000*1000+1>0", "1=1/0", "not (1>2 or 1/0=1)", "1/0=1 and 1>2",
-            "not 1<2 or 1>2", "1>2 and 1<2 or 1>2"};
+            "not 1<2 or 1>2", "1>2 and 1<2 or 1>2", "not not not 1<2", "1<2 and 1<2 and 1>2",
+            "1<2 and 1<2 and 1/0=1"};
         for (String test : so) {
             DUE.due("so: " + test, quick("quick 7;quick 8 if " + test, 3, 0), 8);
         }

@@ -171,6 +171,12 @@ public final class TowersTest {
         DUE.due("places", t.site(1, 1, 9, 2), 100);
         DUE.due("wide", t.site(2, 1, 9, 2), 90);
         DUE.due("wide and deep", t.site(5, 4, 9, 2), 6 * 7);
+        for (int wide = 1; wide <= 5; wide++) {
+            for (int deep = 1; deep <= 5; deep++) {
+                DUE.due("any shape", t.site(wide, deep, 10 - deep, 2), (11 - wide) * (11 - deep));
+                DUE.due("another", t.site(1, 0, 9, 2), 0);
+            }
+        }
         t.tower(4, 4, 1, 1, 10);
         t.tower(0, 0, 1, 1, 10);
         DUE.due("bad now: over it is least", t.site(1, 1, 9, 1), 0);
@@ -227,5 +233,10 @@ public final class TowersTest {
                 Due.row(45, 0, 4, 0), Due.row(45, 0, 4, 6), Due.row(MAX, MIN, MAX, MIN));
         DUE.due("beyond it", t.curve(55, 0, 4, 4), 100);
         DUE.due("to the north", t.curve(55, 2, 4, 5), 100);
+        DUE.due("to the west", t.curve(65, 1, 6, 3), 40);
+        DUE.due("to the west, on the edge", t.curve(5, 1, 6, 5), 100);
+        DUE.due("to the east, on the edge", t.curve(4, 3, 6, 5), 100);
+        DUE.due("to the south, on the edge", t.curve(40, 0, 6, 5), 100);
+        DUE.due("to the north, on the edge", t.curve(50, 2, 6, 5), 100);
     }
 }

@@ -177,6 +177,11 @@ public final class WorksTest {
         t.put(60, 2, 2);
         DUE.due("two", t.done(1, 1), 2);
         DUE.due("the lower", t.done(1, 2), 50);
+        DUE.none(t, "done", Due.row(1, 4), Due.row(1, -1), Due.row(16, 2));
+        t.put(0, 2, 1);
+        t.work(0, 0, 1, 1);
+        DUE.due("the first cell, too", t.done(17, 1), 3);
+        DUE.due("the first cell", t.done(17, 2), 0);
     }
 
     private static void promise29None() {

@@ -107,6 +107,9 @@ public final class YearTest {
         DUE.due("alike, higher", t.bad(1), 3);
         DUE.due("last", t.bad(2), 1);
         DUE.none(t, "bad", Due.row(3), Due.row(-2), Due.row(MAX), Due.row(MIN));
+        t.line(1, 1, 99);
+        DUE.due("by one hour", t.bad(2), 1);
+        DUE.due("how many still", t.bad(-1), 3);
         t.line(1, 1, 100);
         DUE.due("fewer", t.bad(-1), 2);
         DUE.due("none of them", t.bad(2), -1);
@@ -174,7 +177,10 @@ public final class YearTest {
         DUE.due("above all day", t.day(0), 24);
         t.line(2, 1, 9999);
         DUE.due("whatever hours the line has", t.day(0), 24);
-        t.tower(0, 0, 1, 1, 1);
+        t.put(50, 2, 0);
+        t.put(0, 2, 2);
+        t.hours(1, 3, 1);
+        DUE.due("in the first cell, one hour a year", t.day(0), 24);
         t.hours(1, 3, 0);
         DUE.refused(t, "day", -3, 0);
         DUE.due("the latest stays", t.drawn(23, 1), 3);

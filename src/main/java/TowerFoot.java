@@ -117,7 +117,9 @@ public final class TowerFoot {
     private static final int REMEMBERED_BITS = 10;
     private static final long SCATTER = 6364136223846793005L;
     private static final int NO_KEY = Integer.MIN_VALUE;
+    // In how many orders so many TOWERS can be built, and how often each is one of 720.
     private static final int[] ORDERS = {1, 1, 2, 6, 24, 120, 720};
+    private static final int[] OF_720 = {720, 720, 360, 120, 30, 6, 1};
 
     private final Square square = new Square();
     private final Square[] images = new Square[IMAGES];
@@ -1240,7 +1242,7 @@ public final class TowerFoot {
                     sum += orders * (towerOvers[set | 1 << tower] - towerOvers[set]);
                 }
             }
-            return sum * (ORDERS[TOWERS_MOST] / ORDERS[many]);
+            return sum * OF_720[many];
         }
 
         void findSite(Square square, Wind wind, int wide, int deep, int high) {

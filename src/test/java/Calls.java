@@ -79,4 +79,13 @@ final class Calls {
         }
         t.end(text.length());
     }
+
+    /** A new object with one LAW, which is in FORCE. */
+    static TowerFoot withLaw(String text) {
+        TowerFoot t = new TowerFoot();
+        feedText(t, text);
+        t.law();
+        t.force(0);
+        return t;
+    }
 }

@@ -18,14 +18,6 @@ public final class WorksTest {
         DUE.end();
     }
 
-    private static TowerFoot withLaw(String text) {
-        TowerFoot t = new TowerFoot();
-        Calls.feedText(t, text);
-        t.law();
-        t.force(0);
-        return t;
-    }
-
     private static void promise27Work() {
         TowerFoot t = new TowerFoot();
         t.tower(5, 5, 1, 1, 20);
@@ -85,7 +77,7 @@ public final class WorksTest {
 
     private static void promise29Sorts() {
         // the told QUICK is what a WORK did, in tens of a hundred HOURS
-        TowerFoot t = withLaw("quick 100+trees*100;quick 100+screen*100 if x=5");
+        TowerFoot t = Calls.withLaw("quick 100+trees*100;quick 100+screen*100 if x=5");
         t.put(30, 2, 1);
         t.put(65, 2, 1);
         t.put(30, 0, 7);
@@ -118,7 +110,7 @@ public final class WorksTest {
     }
 
     private static void promise29Order() {
-        TowerFoot t = withLaw("quick high*10 if kind=2");
+        TowerFoot t = Calls.withLaw("quick high*10 if kind=2");
         t.tower(5, 5, 2, 1, 12);
         t.put(45, 2, 1);
         t.line(1, 0, 0);
@@ -151,7 +143,7 @@ public final class WorksTest {
     }
 
     private static void promise29Hurt() {
-        TowerFoot t = withLaw("quick 100+trees*10;quick 200 if y=9");
+        TowerFoot t = Calls.withLaw("quick 100+trees*10;quick 200 if y=9");
         t.hours(0, 5, 100);
         t.line(1, 0, 5);
         t.line(1, 1, 9999);
@@ -194,7 +186,7 @@ public final class WorksTest {
     }
 
     private static void promise30Least() {
-        TowerFoot t = withLaw("quick 300-trees*50");
+        TowerFoot t = Calls.withLaw("quick 300-trees*50");
         t.hours(0, 5, 100);
         t.put(50, 2, 1);
         t.line(1, 0, 10);
@@ -224,7 +216,7 @@ public final class WorksTest {
     }
 
     private static void promise30Alike() {
-        TowerFoot t = withLaw("quick 300-trees*50");
+        TowerFoot t = Calls.withLaw("quick 300-trees*50");
         t.hours(0, 5, 100);
         t.put(50, 2, 1);
         t.line(1, 0, 10);
@@ -248,7 +240,7 @@ public final class WorksTest {
     }
 
     private static void promise31Build() {
-        TowerFoot t = withLaw("quick 300-trees*50");
+        TowerFoot t = Calls.withLaw("quick 300-trees*50");
         t.hours(0, 5, 100);
         t.put(50, 2, 1);
         t.line(1, 0, 10);

@@ -17,14 +17,6 @@ public final class YearTest {
         DUE.end();
     }
 
-    private static TowerFoot withLaw(String text) {
-        TowerFoot t = new TowerFoot();
-        Calls.feedText(t, text);
-        t.law();
-        t.force(0);
-        return t;
-    }
-
     private static void promise17Above() {
         TowerFoot t = new TowerFoot();
         for (int way = 0; way < 4; way++) {
@@ -44,21 +36,21 @@ public final class YearTest {
     }
 
     private static void promise17Exactly() {
-        TowerFoot t = withLaw("quick 125");
+        TowerFoot t = Calls.withLaw("quick 125");
         t.hours(2, 8, 5);
         DUE.due("8 times 1.25 is not above 10", t.above(0, 10), 0);
         DUE.due("but above 9", t.above(0, 9), 5);
-        t = withLaw("quick 126");
+        t = Calls.withLaw("quick 126");
         t.hours(2, 8, 5);
         DUE.due("8 times 1.26 is above 10", t.above(0, 10), 5);
-        t = withLaw("quick 999");
+        t = Calls.withLaw("quick 999");
         t.hours(2, 9, 5);
         DUE.due("89.91 is above 89", t.above(0, 89), 5);
         DUE.due("not above 90", t.above(0, 90), 0);
-        t = withLaw("quick 0");
+        t = Calls.withLaw("quick 0");
         t.hours(2, 9, 5);
         DUE.due("0 is not above 0", t.above(0, 0), 0);
-        t = withLaw("quick 1");
+        t = Calls.withLaw("quick 1");
         t.hours(2, 9, 5);
         t.hours(2, 0, 7);
         DUE.due("0.09 is above 0, still air is not", t.above(0, 0), 5);
@@ -92,7 +84,7 @@ public final class YearTest {
     }
 
     private static void promise19Bad() {
-        TowerFoot t = withLaw("quick 100+x*20 if y=0");
+        TowerFoot t = Calls.withLaw("quick 100+x*20 if y=0");
         t.hours(0, 5, 100);
         t.hours(0, 4, 10);
         t.line(1, 0, 5);
@@ -137,7 +129,7 @@ public final class YearTest {
     }
 
     private static void promise26Seat() {
-        TowerFoot t = withLaw("quick 10*x+100 if y<5");
+        TowerFoot t = Calls.withLaw("quick 10*x+100 if y<5");
         t.tower(0, 9, 1, 1, 1);
         t.hours(0, 5, 10);
         t.line(2, 0, 5);

@@ -1334,23 +1334,20 @@ public final class TowerFoot {
 
     /**
      * A LAW that was read. Its code has each CLAUSE's SUM and behind that its TEST, both with what
-     * is reckoned ahead of the sign; bounds tell where each of them begins.
+     * is reckoned ahead of the sign; bounds tell where each of them begins and the last ends.
      */
     private static final class Law {
         private final int[] code;
         private final int[] bounds;
-        private final int clauses;
 
-        Law(int[] itsCode, int[] itsBounds, int itsClauses) {
+        Law(int[] itsCode, int[] itsBounds) {
             code = itsCode;
             bounds = itsBounds;
-            clauses = itsClauses;
         }
 
         /** QUICK by the last CLAUSE that HOLDS; NONE without one. */
         int tells(int[] seen, int[] stack) {
-            int last = Math.min(clauses, (bounds.length - 1) / 2) - 1;
-            for (int clause = last; clause >= 0; clause--) {
+            for (int clause = (bounds.length - 1) / 2 - 1; clause >= 0; clause--) {
                 int test = bounds[2 * clause + 1];
                 int behind = bounds[2 * clause + 2];
                 if (test == behind || reckon(test, behind, seen, stack) == 1) {
@@ -1444,7 +1441,7 @@ public final class TowerFoot {
                 }
                 if (token == TOKEN_END) {
                     return new Law(Arrays.copyOf(code, codeSteps),
-                            Arrays.copyOf(bounds, 2 * clause + 3), clause + 1);
+                            Arrays.copyOf(bounds, 2 * clause + 3));
                 }
                 if (!pass(SIGN + ';')) {
                     return null;

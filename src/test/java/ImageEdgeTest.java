@@ -20,6 +20,7 @@ public final class ImageEdgeTest {
         promise40Numbers(some);
         promise40Each();
         promise40NotKept();
+        promise40Of512Calls();
         promise41Refused();
         promise41NotRefused();
         promise41Others();
@@ -114,7 +115,8 @@ public final class ImageEdgeTest {
     private static Run square(int turn) {
         Run run = Run.none();
         for (int i = 0; i < 5; i++) {
-            run = run.then("tower", 2 * i, turn, 1 + turn % 2, 1 + turn % 3, 9 + i + turn)
+            int x = 2 * i + turn / 2;
+            run = run.then("tower", x, turn, 1 + turn % 2, 1 + turn % 3, 9 + i + turn)
                     .law("quick " + (100 + 10 * turn + i)).then("place", 60 + 3 * i + turn)
                     .then("work", (i + turn) % 2, 80 + 2 * i + turn, 1 + turn, 10 * i + turn)
                     .then("put", 40 + i + turn, turn % 3, 1 + turn);
@@ -225,6 +227,20 @@ public final class ImageEdgeTest {
             t.row();
             DUE.due("REFUSED by -6", t.count(11), i);
         }
+    }
+
+    /** "An object is used for at most 512 calls": the last of them is answered like any. */
+    private static void promise40Of512Calls() {
+        TowerFoot t = new TowerFoot();
+        for (int i = 0; i < 511; i++) {
+            t.image(9);
+        }
+        DUE.due("511 were REFUSED", t.count(7), 511);
+        t = new TowerFoot();
+        for (int i = 0; i < 511; i++) {
+            t.put(50, 0, i % 10);
+        }
+        DUE.due("the 512th call", t.of(50, 0), 0);
     }
 
     private static void promise40NotKept() {

@@ -268,7 +268,10 @@ public final class LawEdgeTest {
             fault(-1, text);
             for (int n = 0; n < text.length(); n++) {
                 String cut = text.substring(0, n);
-                fault(new Oracle.Text(cut).fault(), cut);
+                int want = new Oracle.Text(cut).fault();
+                fault(want, cut);
+                TowerFoot t = Run.bare().text(text).then("end", n).then("law").play();
+                DUE.due("FAULT of \"" + cut + "\", more of it cut off", t.fault(), want);
             }
         }
     }

@@ -470,6 +470,16 @@ public final class QuickEdgeTest {
             }
             quick(20 + n, one.toString());
         }
+        StringBuilder longer = new StringBuilder("quick 7+0+0+0+0+0+0 if x=0");
+        TowerFoot u = Run.bare().law(all.toString()).law("quick 6").play();
+        for (int n = 2; n <= 6; n++) {
+            longer.append(";quick 7+0+0+0+0+0 if x=1");
+            Run behind = Run.bare().law(all.toString()).law(longer.toString()).then("force", 1);
+            DUE.due("nothing of a LAW with more CLAUSES", behind.play().kind(0, 0, 6), 7);
+            DUE.due("nothing of a LAW with more CLAUSES", behind.play().kind(2, 0, 6), 100);
+        }
+        u.force(1);
+        DUE.due("nothing of a LAW with more CLAUSES", u.kind(0, 0, 6), 6);
         quick(100, "quick 5 if 1=2");
         quick(100, "quick 5/0");
         quick(5, "quick 5;quick 6 if 1=2;quick 7/0");

@@ -277,6 +277,15 @@ public final class TowersEdgeTest {
                 }
             }
         }
+        int[][] odd = {{11, 1, 1}, {1, 2, 1}, {1, 11, 1}, {1, 1, 2}, {1, 0, 2}, {11, 0, 1},
+            {1, 1, 1}, {-9, 2, 1}, {1, 1, 1}, {1, -9, 2}, {1, 1, 1}, {1, 1, -40}, {1, 1, 1},
+            {5, 11, 0}, {5, 1, 1}, {111, 0, 0}, {1, 1, 1}};
+        for (int[] a : odd) {
+            for (int what = 2; what >= 0; what--) {
+                DUE.due("site() behind one that can't be", many.site(a[0], a[1], a[2], what),
+                        some.play().site(a[0], a[1], a[2], what));
+            }
+        }
         for (int i = 0; i < changes.length; i++) {
             String difference = Portrait.difference(Portrait.of(some.then(changes[i])),
                     Portrait.of(asked.then(changes[i])));

@@ -26,6 +26,7 @@ public final class WorksEdgeTest {
         promise30FewestCoin();
         promise30IfNoneAre();
         promise30LowestBits();
+        promise30Again();
         promise31Bits(some);
         promise31Go();
         DUE.end();
@@ -362,6 +363,31 @@ public final class WorksEdgeTest {
                 .then("work", 0, 50, 1, 4).then("work", 0, 50, 2, 7), 7, 3, 0);
         least("COIN 0 is left out", seat().then("work", 0, 99, 1, 0).then("work", 0, 50, 2, 7),
                 7, 2, 0);
+    }
+
+    /** What least() told before does not matter. */
+    private static void promise30Again() {
+        Run run = Run.bare().then("hours", 0, 5, 100).then("line", 1, 0, 4);
+        TowerFoot t = run.play();
+        DUE.due("no CELL is BAD", t.least(2), 0);
+        t.put(50, 2, 1);
+        DUE.due("one is BAD: OVER", t.least(2), 100);
+        DUE.due("one is BAD: which", t.least(1), 0);
+        DUE.due("one is BAD: COIN", t.least(0), 0);
+        t.work(3, 50, 60, 0);
+        DUE.due("it helps nothing", t.least(1), 0);
+        t.tower(6, 5, 1, 1, 9);
+        t.drop(0);
+        t.work(3, 50, 75, 8);
+        DUE.due("a LEE helps by no more than its LINE", t.least(2), 100);
+        t.put(50, 2, 0);
+        DUE.due("no CELL is BAD again", t.least(0), 0);
+        t.put(55, 2, 1);
+        DUE.due("BAD again", t.least(2), 100);
+        t.work(3, 55, 66, 7);
+        DUE.due("COIN", t.least(0), 7);
+        DUE.due("which", t.least(1), 2);
+        DUE.due("OVER", t.least(2), 0);
     }
 
     private static void promise31Bits(Edge some) {

@@ -99,24 +99,24 @@ public final class TowerFoot {
     private static final int STEP_NOT = 9;
     private static final int STEP_AND = 10;
     private static final int STEP_OR = 11;
-    private static final int BROKEN = Integer.MIN_VALUE;
+    private static final int BROKEN = -1000000001;
     private static final int STACK = 64;
 
-    // TOKENS: words first, single bytes from SIGN on.
+    // TOKENS: words first, single bytes from SIGN on, NUMBERS by how much they are behind those.
     private static final int TOKEN_END = 0;
-    private static final int TOKEN_NUMBER = 1;
-    private static final int TOKEN_QUICK = 2;
-    private static final int TOKEN_IF = 3;
-    private static final int TOKEN_OR = 4;
-    private static final int TOKEN_AND = 5;
-    private static final int TOKEN_NOT = 6;
-    private static final int TOKEN_STRANGE = 7;
+    private static final int TOKEN_QUICK = 1;
+    private static final int TOKEN_IF = 2;
+    private static final int TOKEN_OR = 3;
+    private static final int TOKEN_AND = 4;
+    private static final int TOKEN_NOT = 5;
+    private static final int TOKEN_STRANGE = 6;
     private static final int TOKEN_SEEN = 16;
     private static final int SIGN = 1000;
+    private static final int TOKEN_NUMBER = 2000;
 
     private static final int REMEMBERED_BITS = 10;
     private static final long SCATTER = 6364136223846793005L;
-    private static final int NO_KEY = Integer.MIN_VALUE;
+    private static final int NO_KEY = -1000000001;
     // In how many orders so many TOWERS can be built, and how often each is one of 720.
     private static final int[] ORDERS = {1, 1, 2, 6, 24, 120, 720};
     private static final int[] OF_720 = {720, 720, 360, 120, 30, 6, 1};
@@ -1417,24 +1417,20 @@ public final class TowerFoot {
         private final int[] code = new int[TAPE_MOST + 1];
         private int codeSteps = 0;
         private final int[] bounds = new int[2 * CLAUSES_MOST + 1];
-        private int[] text = new int[0];
-        private int length = 0;
+        private final Tokens tokens = new Tokens();
+        private int reached = 0;
         private int token = TOKEN_END;
-        private int tokenFrom = 0;
-        private int tokenTo = 0;
-        private int tokenNumber = 0;
         private int parts = 0;
         int faultPlace = NONE;
 
         /** The LAW, or null with faultPlace. */
         Law read(int[] bytes, int many) {
-            text = bytes;
-            length = Math.max(0, Math.min(many, bytes.length));
-            tokenTo = 0;
+            tokens.cut(bytes, many);
+            reached = 0;
+            token = tokens.sorts[0];
             codeSteps = 0;
             parts = 0;
             faultPlace = NONE;
-            next();
             for (int clause = 0; clause < CLAUSES_MOST; clause++) {
                 if (!readClause(clause)) {
                     return null;
@@ -1601,13 +1597,13 @@ public final class TowerFoot {
                 next();
                 return readSum(depth + 1) && pass(SIGN + ']');
             }
-            boolean number = token == TOKEN_NUMBER && tokenNumber <= NUMBER_MOST;
+            boolean number = isWithin(token, TOKEN_NUMBER, TOKEN_NUMBER + NUMBER_MOST);
             boolean word = token >= TOKEN_SEEN && token < TOKEN_SEEN + SEEN;
             if ((!number && !word) || parts >= PARTS_MOST) {
                 return failHere();
             }
             parts++;
-            add(number ? STEP_NUMBER : STEP_WORD, number ? tokenNumber : token - TOKEN_SEEN);
+            add(number ? STEP_NUMBER : STEP_WORD, token - (number ? TOKEN_NUMBER : TOKEN_SEEN));
             next();
             return true;
         }
@@ -1621,7 +1617,7 @@ public final class TowerFoot {
         }
 
         private boolean failHere() {
-            faultPlace = tokenFrom;
+            faultPlace = tokens.places[reached];
             return false;
         }
 
@@ -1632,63 +1628,89 @@ public final class TowerFoot {
             }
         }
 
+        /** Behind the TEXT's end there is its end again. */
         private void next() {
-            int from = tokenTo;
-            while (from < length && text[from] == ' ') {
-                from++;
+            reached = Math.min(reached + 1, tokens.many - 1);
+            token = tokens.sorts[reached];
+        }
+    }
+
+    /** A TEXT cut into TOKENS, the last of which is its end. */
+    private static final class Tokens {
+        final int[] sorts = new int[TAPE_MOST + 1];
+        final int[] places = new int[TAPE_MOST + 1];
+        int many = 0;
+        private int[] text = new int[0];
+        private int length = 0;
+
+        void cut(int[] bytes, int bytesMany) {
+            text = bytes;
+            length = Math.max(0, Math.min(bytesMany, Math.min(bytes.length, TAPE_MOST)));
+            many = 0;
+            for (int i = 0; i < length; i++) {
+                if (text[i] != ' ' && !goesOn(i)) {
+                    add(sortFrom(i), i);
+                }
             }
-            tokenFrom = from;
-            if (from >= length) {
-                tokenTo = length;
-                token = TOKEN_END;
-            } else if (isLetter(text[from])) {
-                nextWord();
-            } else if (isDigit(text[from])) {
-                nextNumber();
-            } else {
-                tokenTo = from + 1;
-                token = SIGN + text[from];
+            add(TOKEN_END, length);
+        }
+
+        private void add(int sort, int place) {
+            if (many < sorts.length) {
+                sorts[many] = sort;
+                places[many] = place;
+                many++;
             }
         }
 
-        private void nextNumber() {
-            token = TOKEN_NUMBER;
-            tokenNumber = 0;
-            tokenTo = tokenFrom;
-            while (tokenTo < length && isDigit(text[tokenTo])) {
-                tokenNumber = Math.min(NUMBER_MOST + 1, tokenNumber * 10 + text[tokenTo] - '0');
-                tokenTo++;
-            }
+        /** Whether this byte is of the same row of letters or digits as the one ahead of it. */
+        private boolean goesOn(int i) {
+            return i > 0 && ((isLetter(text[i]) && isLetter(text[i - 1]))
+                    || (isDigit(text[i]) && isDigit(text[i - 1])));
         }
 
-        private void nextWord() {
-            tokenTo = tokenFrom;
-            while (tokenTo < length && isLetter(text[tokenTo])) {
-                tokenTo++;
+        private int sortFrom(int from) {
+            if (isLetter(text[from])) {
+                return wordFrom(from);
             }
-            token = spells("quick") ? TOKEN_QUICK
-                    : spells("if") ? TOKEN_IF
-                    : spells("or") ? TOKEN_OR
-                    : spells("and") ? TOKEN_AND
-                    : spells("not") ? TOKEN_NOT
-                    : spells("kind") ? TOKEN_SEEN + SEEN_KIND
-                    : spells("rise") ? TOKEN_SEEN + SEEN_RISE
-                    : spells("high") ? TOKEN_SEEN + SEEN_HIGH
-                    : spells("trees") ? TOKEN_SEEN + SEEN_TREES
-                    : spells("screen") ? TOKEN_SEEN + SEEN_SCREEN
-                    : spells("off") ? TOKEN_SEEN + SEEN_OFF
-                    : spells("x") ? TOKEN_SEEN + SEEN_X
-                    : spells("y") ? TOKEN_SEEN + SEEN_Y
-                    : spells("way") ? TOKEN_SEEN + SEEN_WAY
+            return isDigit(text[from]) ? numberFrom(from) : SIGN + text[from];
+        }
+
+        /** What is above the greatest NUMBER, however far, counts as the next one. */
+        private int numberFrom(int from) {
+            int number = 0;
+            for (int i = from; i < length && isDigit(text[i]); i++) {
+                number = Math.min(NUMBER_MOST + 1, number * 10 + text[i] - '0');
+            }
+            return TOKEN_NUMBER + number;
+        }
+
+        private int wordFrom(int from) {
+            return spells("quick", from) ? TOKEN_QUICK
+                    : spells("if", from) ? TOKEN_IF
+                    : spells("or", from) ? TOKEN_OR
+                    : spells("and", from) ? TOKEN_AND
+                    : spells("not", from) ? TOKEN_NOT
+                    : spells("kind", from) ? TOKEN_SEEN + SEEN_KIND
+                    : spells("rise", from) ? TOKEN_SEEN + SEEN_RISE
+                    : spells("high", from) ? TOKEN_SEEN + SEEN_HIGH
+                    : spells("trees", from) ? TOKEN_SEEN + SEEN_TREES
+                    : spells("screen", from) ? TOKEN_SEEN + SEEN_SCREEN
+                    : spells("off", from) ? TOKEN_SEEN + SEEN_OFF
+                    : spells("x", from) ? TOKEN_SEEN + SEEN_X
+                    : spells("y", from) ? TOKEN_SEEN + SEEN_Y
+                    : spells("way", from) ? TOKEN_SEEN + SEEN_WAY
                     : TOKEN_STRANGE;
         }
 
-        private boolean spells(String word) {
-            if (tokenTo - tokenFrom != word.length()) {
+        /** Whether the row of letters from here on is this word and no longer one. */
+        private boolean spells(String word, int from) {
+            int to = from + word.length();
+            if (to > length || (to < length && isLetter(text[to]))) {
                 return false;
             }
             for (int i = 0; i < word.length(); i++) {
-                if (text[tokenFrom + i] != word.charAt(i)) {
+                if (text[from + i] != word.charAt(i)) {
                     return false;
                 }
             }

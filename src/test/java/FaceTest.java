@@ -7,9 +7,13 @@ import java.util.TreeSet;
 /** The public face: what the document lists and nothing else, in a final class. */
 public final class FaceTest {
     private static final Due DUE = new Due("FaceTest");
+    private static final TreeSet<String> NAMES = new TreeSet<>();
 
     public static void main(String[] args) {
         Class<?> face = TowerFoot.class;
+        for (String[] call : Calls.FACE) {
+            NAMES.add(call[0]);
+        }
         DUE.due("public final", face.getModifiers(), Modifier.PUBLIC | Modifier.FINAL);
         DUE.due("NONE", TowerFoot.NONE, -1);
         methods(face);
@@ -23,6 +27,10 @@ public final class FaceTest {
                     && !Modifier.isProtected(inside.getModifiers());
             DUE.due(inside + " is hidden", hidden ? 1 : 0, 1);
             DUE.due(inside + " is static", Modifier.isStatic(inside.getModifiers()) ? 1 : 0, 1);
+            for (Method m : inside.getDeclaredMethods()) {
+                DUE.due(m + " bears a public name", NAMES.contains(m.getName()) ? 1 : 0, 0);
+            }
+            DUE.due(inside + "'s fields", inside.getDeclaredFields().length <= 20 ? 1 : 0, 1);
         }
         DUE.due("classes", face.getDeclaredClasses().length < 12 ? 1 : 0, 1);
         DUE.end();
@@ -30,11 +38,9 @@ public final class FaceTest {
 
     private static void methods(Class<?> face) {
         TreeSet<String> want = new TreeSet<>();
-        TreeSet<String> names = new TreeSet<>();
         for (String[] call : Calls.FACE) {
             String answer = call[0].equals("share") ? "long " : "int ";
             want.add(answer + call[0] + "/" + call[1].length());
-            names.add(call[0]);
         }
         TreeSet<String> got = new TreeSet<>();
         for (Method m : face.getDeclaredMethods()) {
@@ -45,7 +51,7 @@ public final class FaceTest {
                 }
             } else {
                 DUE.due(m + " is private", Modifier.isPrivate(m.getModifiers()) ? 1 : 0, 1);
-                DUE.due(m + " bears a public name", names.contains(m.getName()) ? 1 : 0, 0);
+                DUE.due(m + " bears a public name", NAMES.contains(m.getName()) ? 1 : 0, 0);
             }
         }
         if (!got.equals(want)) {

@@ -409,5 +409,17 @@ public final class LawEdgeTest {
         t = Run.bare().law("quick 8 if " + "not ".repeat(96) + "x=0").then("force", 0).play();
         DUE.due("an even number of nots", t.kind(0, 0, 6), 8);
         DUE.due("an even number of nots", t.kind(1, 0, 6), 100);
+        termsAsManyTokensAsBytes();
+    }
+
+    /** No longest row is longer than a byte here, so that a TAPE has the most TOKENS. */
+    private static void termsAsManyTokensAsBytes() {
+        fault(0, "+".repeat(400));
+        fault(0, "a1".repeat(200));
+        fault(0, "a1".repeat(199) + "a");
+        fault(6, "quick " + "*".repeat(394));
+        fault(400, "quick 1 if not " + "y<3 or ".repeat(12) + "x=0" + " ".repeat(297) + "+");
+        TowerFoot t = Run.bare().text("+".repeat(400)).then("law").law("quick 7").then("force", 0).play();
+        DUE.due("a law behind so many TOKENS", t.kind(0, 0, 6), 7);
     }
 }
